@@ -262,12 +262,15 @@ public final class Backwardterms {
 
     /** The ways to each STATE stand in the columns; those with one LETTER more are told behind them, then moved ahead. */
     private void takeLetter(int states, int letters) {
-        Arrays.fill(columns, states, PLACES, 0);
-        for (int place = 0; place < states * letters && place < PLACES; place++) {
-            int to = states + laid[place];
-            if (to >= states && to < PLACES) columns[to] += columns[place / letters];
+        for (int i = states; i < PLACES; i++) columns[i] = 0;
+        for (int state = 0; state < states; state++) {
+            for (int letter = 0; letter < letters; letter++) {
+                int place = state * letters + letter;
+                int to = place < PLACES ? states + laid[place] : PLACES;
+                if (to >= states && to < PLACES) columns[to] += columns[state];
+            }
         }
-        System.arraycopy(columns, states, columns, 0, states);
+        for (int i = 0; i < states && states + i < PLACES; i++) columns[i] = columns[states + i];
     }
 
     public int read(int name, int top) throws IllegalArgumentException, IllegalStateException {
@@ -283,6 +286,7 @@ public final class Backwardterms {
     }
 
     private void readAt(int n, int top, int last) {
+        if (n < 0 || n >= made.length || top < 0 || top >= PLACES) return;
         Big term = made[n];
         term.set(n < top ? laid[n] : 0);
         for (int j = 1; j <= n && j <= last && top + j < PLACES; j++) term.addTimes(made[n - j], -laid[top + j], 0);
@@ -1244,19 +1248,14 @@ public final class Backwardterms {
 
         Big at(int n) {
             int last = n < 0 ? 0 : n < terms.length ? n : terms.length - 1;
-            for (; known <= last; known++) stepTo(known);
-            return terms[last];
-        }
-
-        private void stepTo(int n) {
-            Big term = terms[n];
-            term.set(0);
-            if (of == null) return;
-            if (n < of.order) {
-                term.set(of.first[n]);
-                return;
+            if (of == null) return terms[last];
+            for (; known <= last; known++) {
+                terms[known].set(known < of.order ? of.first[known] : 0);
+                for (int i = 0; i < of.order && known >= of.order; i++) {
+                    terms[known].addTimes(terms[known - 1 - i], of.factors[i], 0);
+                }
             }
-            for (int i = 0; i < of.order; i++) term.addTimes(terms[n - 1 - i], of.factors[i], 0);
+            return terms[last];
         }
     }
 

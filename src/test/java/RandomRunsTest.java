@@ -1,12 +1,7 @@
-import java.lang.reflect.InvocationTargetException;
-import java.lang.reflect.Method;
-import java.util.ArrayList;
-import java.util.List;
 import java.util.Random;
 
 /** Runs of random calls, always the same ones: each must answer what Plain answers. */
 public final class RandomRunsTest {
-    private static final List<Method> CALLS = new ArrayList<>();
     private static final String[] CHANGING = {
         "two", "tell", "adopt", "combine", "combine", "combine", "derive", "derive", "derive", "machine", "read",
         "read", "shorten", "drop", "wind", "undo", "lay", "lay", "lay", "sweep"};
@@ -17,19 +12,14 @@ public final class RandomRunsTest {
 
     private final Random random;
     private final int flavor;
-    private final Backwardterms real = new Backwardterms();
-    private final Plain plain = new Plain();
-    private final List<String> told = new ArrayList<>();
+    private final Pair pair = new Pair();
 
     private RandomRunsTest(long seed) {
         random = new Random(seed);
         flavor = (int) (seed % 6);
     }
 
-    public static void main(String[] args) throws Exception {
-        for (Method m : Backwardterms.class.getDeclaredMethods()) {
-            if (java.lang.reflect.Modifier.isPublic(m.getModifiers())) CALLS.add(m);
-        }
+    public static void main(String[] args) {
         long from = args.length > 0 ? Long.parseLong(args[0]) : 0;
         int runs = args.length > 1 ? Integer.parseInt(args[1]) : 240;
         int calls = args.length > 2 ? Integer.parseInt(args[2]) : 300;
@@ -44,7 +34,7 @@ public final class RandomRunsTest {
         System.out.println("RandomRunsTest: " + runs + " runs are as due");
     }
 
-    private boolean run(int calls) throws Exception {
+    private boolean run(int calls) {
         for (int i = 0; i < calls; i++) {
             boolean isRight;
             int kind = random.nextInt(20);
@@ -57,33 +47,12 @@ public final class RandomRunsTest {
         return call("digest");
     }
 
-    private boolean call(String name, Object... given) throws Exception {
-        Method method = null;
-        for (Method m : CALLS) if (m.getName().equals(name)) method = m;
-        Object[] args = given.length > 0 ? given : arguments(name, method.getParameterCount());
-        Object got = answer(real, method, args);
-        Object due = answer(plain, Plain.class.getDeclaredMethod(name, method.getParameterTypes()), args);
-        String line = name + java.util.Arrays.toString(args) + " = " + got;
-        told.add(line);
-        if (due.equals(got)) return true;
-        for (String s : told) System.out.println("  " + s);
-        System.out.println("  due is " + due);
-        return false;
-    }
-
-    private static Object answer(Object of, Method method, Object[] args) throws IllegalAccessException {
-        try {
-            return method.invoke(of, args);
-        } catch (InvocationTargetException e) {
-            Throwable t = e.getCause();
-            if (t.getClass() == IllegalArgumentException.class || t.getClass() == IllegalStateException.class
-                || t.getClass() == IndexOutOfBoundsException.class) return "throws." + t.getClass().getSimpleName();
-            throw new AssertionError(of.getClass() + "." + method.getName() + java.util.Arrays.toString(args), t);
-        }
+    private boolean call(String name, Object... given) {
+        return pair.call(name, given.length > 0 ? given : arguments(name, Pair.countOf(name)));
     }
 
     /** Lays as many terms of a small recurrence as there is room for, so that something is found. */
-    private boolean layRecurrence() throws Exception {
+    private boolean layRecurrence() {
         if (!call("sweep")) return false;
         int order = 1 + random.nextInt(5);
         int[] c = new int[order];
