@@ -50,7 +50,7 @@ public final class Backwardterms {
     private final Big step = new Big(ROOM);
     private final Ratio ratio = new Ratio();
     private final Massey massey = new Massey();
-    private final Found overall = new Found(massey);
+    private final Found overall = new Found();
     private final Back back = new Back();
     private final Squaring squaring = new Squaring();
     private final Remainders remainders = new Remainders();
@@ -1635,17 +1635,13 @@ public final class Backwardterms {
         int order;
         boolean isSure;
         private boolean isKnown;
-        private final Massey massey;
+        private final Massey massey = new Massey();
         private final int[] rests = new int[PLACES];
         private final int[] primes = new int[NEEDED];
         /** By each of the primes: the determinant that divides, then those that are divided. */
         private final long[][] determinants = new long[NEEDED][MOST_ORDER + 1];
         private final Big part = new Big(16);
         private final Big whole = new Big(16);
-
-        Found(Massey massey) {
-            this.massey = massey;
-        }
 
         void forget() {
             isKnown = false;

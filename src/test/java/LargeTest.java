@@ -8,6 +8,7 @@ public final class LargeTest {
         fourQuadratics();
         thinned();
         blown();
+        round();
         if (!isRight) System.exit(1);
         System.out.println("LargeTest: all answers are as due");
     }
@@ -127,6 +128,32 @@ public final class LargeTest {
         tell(pair, 4, 1, -3, 5);
         made(pair, 8, "derive", 5, 4, 5, 8);
         ask(pair, 1, 2, 3, 5);
+    }
+
+    /** Numbers of nine 0 at their end, where a limb is just full. */
+    private static void round() {
+        Pair pair = new Pair();
+        for (int sign = -1; sign <= 1; sign += 2) {
+            tell(pair, 0, 1, 10, 1);
+            made(pair, 1, "derive", 0, 0, 2, 5);
+            tell(pair, 1, 1, -10, 1);
+            tell(pair, 2, 1, 1, 10);
+            tell(pair, 25, 1, 1, 50 * sign);
+            made(pair, 1, "combine", 2, 2, 25, 2);
+            tell(pair, 25, 1, 1, 10);
+            made(pair, 1, "combine", 2, 2, 25, 2);
+            // 5000 * 100000^n, less 10000 at 0
+            made(pair, 1, "combine", 3, 0, 2, 2);
+            made(pair, null, "sweep");
+            made(pair, null, "lay", 3, 1, 1, 0, 0, 0);
+            made(pair, 1, "read", 4, 1);
+            made(pair, 1, "combine", 5, 4, 2, 2);
+            made(pair, 2, "combine", 6, 3, 5, 1);
+            made(pair, 2, "combine", 6, 6, 5, 1);
+            made(pair, "100000 0 ; " + -5000 * sign + " " + 500000000 * sign, "text", 6);
+            made(pair, -5000 * sign + " " + 1000000000 * sign + " / 1 -100000 0", "fraction", 6);
+            ask(pair, 0, 1, 3, 6);
+        }
     }
 
     private static void ask(Pair pair, int... names) {

@@ -409,6 +409,10 @@ public final class PromisesTest {
         refuses(b, "8 * 2", STATE, () -> b.derive(6, 5, 5, 2));
         due("8 by each", b.derive(6, 5, 1, 0), 8);
         refuses(b, "the arguments ahead of 8 + 1", ARGUMENT, () -> b.derive(26, 5, 0, 0));
+        put(b, 1, 1, 0, 0, 0, 0, 0, 0, -1);
+        due("1 / (1 - x^7)", b.read(7, 1), 7);
+        due("7 + 1", b.derive(6, 7, 0, 0), 8);
+        due("text", b.text(6), "1 0 0 0 0 0 1 -1 ; 1 1 1 1 1 1 1 2");
     }
 
     /** FACTORS of 6 and 7 digits, FIRST TERMS of 9 and 10. */
@@ -759,6 +763,8 @@ public final class PromisesTest {
         tell(b, 6, 1, 2, 1);
         b.derive(6, 6, 3, 20);
         asOf(b, 6, 1, 1, 1, 20, -1);
+        b.derive(6, 6, 3, 9);
+        asOf(b, 6, 1, 1, 1, 29, -1);
         refuses(b, "none", INDEX, () -> b.ofSequence(9, 5));
         refuses(b, "no name", INDEX, () -> b.ofSequence(26, 0));
         refuses(b, "no name", INDEX, () -> b.ofSequence(-1, 0));
@@ -821,6 +827,14 @@ public final class PromisesTest {
         b.two(5, 1, -3, 0, 1);
         String[] last = {"-1/3", "-1/9", "2/27", "5/81", "-1/243"};
         for (int n = 1; n <= 5; n++) due("term(5, -" + n + ")", b.term(5, -n), last[n - 1]);
+        b.two(5, 11, -10, 11, 20);
+        due("10^8 + 10", b.term(5, 8), "100000010");
+        due("10^9 + 10", b.term(5, 9), "1000000010");
+        due("10^19 + 10", b.term(5, 19), "10000000000000000010");
+        b.two(5, 11, -10, -1, -10);
+        due("-10^9", b.term(5, 9), "-1000000000");
+        due("-10^18", b.term(5, 18), "-1000000000000000000");
+        due("-1/10^9", b.term(5, -9), "-1/1000000000");
         refuses(b, "n", ARGUMENT, () -> b.term(0, -31));
         refuses(b, "n", ARGUMENT, () -> b.term(0, 101));
         refuses(b, "n ahead of none", ARGUMENT, () -> b.term(4, -31));
@@ -929,6 +943,14 @@ public final class PromisesTest {
         turns(b, 5, 11, 0, 976);
         tell(b, 5, 4, 11, 10, 6, 4, 11, 5, 1, 0);
         turns(b, 5, 13, -1, -1);
+        // the first ROW that is like one ahead of it is 1000
+        put(b, -1, -1, 2, 1, 1, 4, 9, 3, 0, -4, -10, 0, -10);
+        due("read", b.read(6, 4), 8);
+        turns(b, 6, 20, 6, 994);
+        // here it would be 1001
+        put(b, 0, 0, -1, 2, 1, -1, 1, 3, -6, -5, 0, -6, 0, -10);
+        due("read", b.read(6, 6), 7);
+        turns(b, 6, 20, -1, -1);
         refuses(b, "m", ARGUMENT, () -> b.period(0, 0, true));
         refuses(b, "m", ARGUMENT, () -> b.period(0, 21, false));
         refuses(b, "m", ARGUMENT, () -> b.period(0, Integer.MIN_VALUE, false));
