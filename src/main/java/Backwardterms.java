@@ -792,16 +792,33 @@ public final class Backwardterms {
     public boolean isSound() {
         for (int name = 0; name < NAMES; name++) {
             Recurrence a = sequences[name];
-            if (a == null) continue;
-            if (!a.isSeenSound) {
-                rowOne.start(a);
-                rowOther.start(a.shortest());
-                if (!squaring.isLike(a, rowOne) || a.goesBack() && !squaring.isLikeBack(a, back)) return false;
-                if (!isToldByShortest() || !isToldByFraction(a.shortest())) return false;
-                if (!remainders.isTurning(a, 5) || a.isLong()) return false;
-            }
-            // a recurrence never changes, so neither does this
+            // a recurrence never changes, so neither does whether it is sound
+            if (a == null || a.isSeenSound) continue;
+            rowOne.start(a);
+            rowOther.start(a.shortest());
+            squaring.startAhead(a);
+            squaring.raise(a, LAST_SQUARED);
+            if (!isToldBySquaring(a)) return false;
+            squaring.startBack(a);
+            squaring.raise(a, LAST_SQUARED_BACK);
+            if (a.goesBack() && !isToldBySquaringBack(a)) return false;
+            if (!isToldByShortest() || !isToldByFraction(a.shortest())) return false;
+            if (!remainders.isTurning(a, 5) || a.isLong()) return false;
             a.isSeenSound = true;
+        }
+        return true;
+    }
+
+    private boolean isToldBySquaring(Recurrence a) {
+        for (int n = 0; n <= LAST_SQUARED; n++) {
+            if (!squaring.isLike(a, n, rowOne.at(n))) return false;
+        }
+        return true;
+    }
+
+    private boolean isToldBySquaringBack(Recurrence a) {
+        for (int n = 0; n <= LAST_SQUARED_BACK; n++) {
+            if (!squaring.isLike(a, n, back.scaled(a, n))) return false;
         }
         return true;
     }
@@ -974,13 +991,8 @@ public final class Backwardterms {
                 int j = i - shift;
                 long limb = j < other.size ? other.limbs[j] : otherFill;
                 long sum = limbs[i] + factor * limb + carry;
-                carry = sum / BASE;
-                int rest = (int) (sum - carry * BASE);
-                if (rest < 0) {
-                    rest += BASE;
-                    carry--;
-                }
-                limbs[i] = rest;
+                carry = Math.floorDiv(sum, (long) BASE);
+                limbs[i] = (int) (sum - carry * BASE);
             }
             close(end, top + (long) factor * other.top + carry);
         }
@@ -995,13 +1007,8 @@ public final class Backwardterms {
             long carry = 0;
             for (int i = 0; i < size; i++) {
                 long sum = (long) factor * limbs[i] + carry;
-                carry = sum / BASE;
-                int rest = (int) (sum - carry * BASE);
-                if (rest < 0) {
-                    rest += BASE;
-                    carry--;
-                }
-                limbs[i] = rest;
+                carry = Math.floorDiv(sum, (long) BASE);
+                limbs[i] = (int) (sum - carry * BASE);
             }
             close(size, (long) factor * top + carry);
         }
@@ -1011,8 +1018,7 @@ public final class Backwardterms {
             int end = from;
             long rest = above;
             while (rest != 0 && rest != -1 && end < limbs.length) {
-                long next = rest / BASE;
-                if (rest < next * BASE) next--;
+                long next = Math.floorDiv(rest, (long) BASE);
                 limbs[end] = (int) (rest - next * BASE);
                 rest = next;
                 end++;
@@ -1321,39 +1327,33 @@ public final class Backwardterms {
         private final Big[] wide = bigs(2 * MOST_ORDER, SHORT_ROOM);
         private final Big told = new Big(SHORT_ROOM);
 
-        /** Whether TERMS of 0 to 12 by squaring are those of the row. */
-        boolean isLike(Recurrence a, Row row) {
+        /** What is raised is x. */
+        void startAhead(Recurrence a) {
             for (int i = 0; i < a.order; i++) at(BASE_ROW, i).set(0);
             if (a.order == 1) at(BASE_ROW, 0).set(a.factors[0]);
-            else at(BASE_ROW, 1).set(1);
-            for (int n = 0; n <= LAST_SQUARED; n++) {
-                raise(a, n);
-                if (!told.isLike(row.at(n))) return false;
-            }
-            return true;
+            if (a.order > 1) at(BASE_ROW, 1).set(1);
         }
 
-        /** Whether those of -6 to -1 are those by steps; x^-1 is raised c(k) times, so that all is whole. */
-        boolean isLikeBack(Recurrence a, Back back) {
+        /** What is raised is c(k) times x^-1, so that all is whole. */
+        void startBack(Recurrence a) {
             for (int i = 1; i < a.order; i++) at(BASE_ROW, a.order - 1 - i).set(-a.factors[i - 1]);
-            at(BASE_ROW, a.order - 1).set(1);
-            for (int n = 0; n <= LAST_SQUARED_BACK; n++) {
-                raise(a, n);
-                if (!told.isLike(back.scaled(a, n))) return false;
-            }
-            return true;
+            if (a.order > 0) at(BASE_ROW, a.order - 1).set(1);
         }
 
-        /** Tells the next power by one with half the exponent, and what it says of TERM n. */
-        private void raise(Recurrence a, int n) {
-            if (n == 0) {
-                for (int i = 0; i < a.order; i++) at(0, i).set(i == 0 ? 1 : 0);
-            } else {
+        /** Each power, up to the last, by that with half the exponent. */
+        void raise(Recurrence a, int last) {
+            for (int i = 0; i < a.order; i++) at(0, i).set(i == 0 ? 1 : 0);
+            for (int n = 1; n <= last && n <= LAST_SQUARED; n++) {
                 multiply(a, n / 2, n / 2, n);
                 if (n % 2 == 1) multiply(a, n, BASE_ROW, n);
             }
+        }
+
+        /** Whether what was raised last says of the exponent n that it is this TERM. */
+        boolean isLike(Recurrence a, int n, Big term) {
             told.set(0);
             for (int i = 0; i < a.order; i++) told.addTimes(at(n, i), a.first[i], 0);
+            return told.isLike(term);
         }
 
         private void multiply(Recurrence a, int left, int right, int to) {
@@ -1363,7 +1363,7 @@ public final class Backwardterms {
                 for (int j = 0; j < order; j++) wide[i + j].addProduct(at(left, i), at(right, j));
             }
             for (int d = 2 * order - 2; d >= order; d--) {
-                // a factor is an int, but what it is a factor of is a Big: so it is carried as one
+                // x^d is c(1) * x^(d - 1) + ... + c(k) * x^(d - k), so those take its place
                 for (int i = 1; i <= order; i++) wide[d - i].addTimes(wide[d], a.factors[i - 1], 0);
             }
             for (int i = 0; i < order; i++) at(to, i).copy(wide[i]);
