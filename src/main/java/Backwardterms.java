@@ -30,8 +30,14 @@ public final class Backwardterms {
     /** Limbs for a product of two such TERMS. */
     private static final int WIDE_ROOM = 116;
 
-    /** All above 2^30: a number below 2^90 that three of them divide is 0. */
-    private static final int[] PRIMES = {2147483647, 2147483629, 2147483587, 2147483579, 2147483563};
+    /**
+     * All above 2^30, so a number below 2^90 that three of them divide is 0; and any 27 of them multiply to more
+     * than 2^836, so one that is below that and not 0 cannot be divided by all.
+     */
+    private static final int[] PRIMES = {2147483647, 2147483629, 2147483587, 2147483579, 2147483563, 2147483549, 2147483543,
+        2147483497, 2147483489, 2147483477, 2147483423, 2147483399, 2147483353, 2147483323, 2147483269, 2147483249,
+        2147483237, 2147483179, 2147483171, 2147483137, 2147483123, 2147483077, 2147483069, 2147483059, 2147483053,
+        2147483033, 2147483029, 2147482951};
 
     private final int[] laid = new int[PLACES];
     private final long[] columns = new long[PLACES];
@@ -387,27 +393,47 @@ public final class Backwardterms {
     /**
      * The SHORTEST recurrence of terms that are told by one of whole FACTORS and of half their count as ORDER;
      * null, if it is LONG. By a prime its ORDER is never higher than over fractions, so a recurrence found by a
-     * prime which tells all the terms is the one; one prime does, but for those that divide a certain number.
+     * prime which tells all the terms is the one. It is found by each prime that does not divide the determinant of
+     * the terms i + j, with i and j below its ORDER, which is not 0. If it is not LONG, term 7 + i is below
+     * 8 * 10^(9 + 6 * i) for i from 1 on, so row 0 is not as long as 3 * 10^9 and row i not as 9 * 10^(9 + 6 * i): the
+     * determinant is below the product of these eight, 2^822, and the primes that there are cannot all divide it.
      */
     private Recurrence shortest(Big[] terms, int count) {
         for (int prime : PRIMES) {
             for (int n = 0; n < count && n < terms.length && n < PLACES; n++) rests[n] = terms[n].mod(prime);
             massey.find(rests, count, prime);
-            Recurrence likely = likely(terms);
-            if (likely != null && isToldBy(likely, terms, count)) return likely;
+            if (massey.order > MOST_ORDER || !isFirstShort(terms, massey.order)) return null;
+            if (isFactorShort(massey.order)) {
+                Recurrence likely = likely(terms);
+                if (isToldBy(likely, terms, count)) return likely;
+            }
             if (2 * massey.order >= count) return null;
         }
         return null;
     }
 
-    /** What was found by the last prime, its FACTORS taken nearest to 0; null, if it is LONG. */
+    /** Whether so many terms have nine digits at most. */
+    private static boolean isFirstShort(Big[] terms, int count) {
+        for (int n = 0; n < count && n < terms.length; n++) {
+            if (!terms[n].isWithin(MOST_FIRST)) return false;
+        }
+        return true;
+    }
+
+    /** Whether the FACTORS by the last prime, taken nearest to 0, have six digits at most. */
+    private boolean isFactorShort(int order) {
+        for (int k = 1; k <= order; k++) {
+            long factor = massey.factorNearZero(k);
+            if (factor < -MOST_FACTOR || factor > MOST_FACTOR) return false;
+        }
+        return true;
+    }
+
+    /** What was found by the last prime, its FACTORS taken nearest to 0. */
     private Recurrence likely(Big[] terms) {
-        if (massey.order > MOST_ORDER || massey.order > terms.length) return null;
         Recurrence likely = new Recurrence(massey.order);
-        for (int i = 0; i < likely.order; i++) {
-            long factor = massey.factorNearZero(i + 1);
-            if (factor < -MOST_FACTOR || factor > MOST_FACTOR || !terms[i].isWithin(MOST_FIRST)) return null;
-            likely.factors[i] = (int) factor;
+        for (int i = 0; i < likely.order && i < terms.length; i++) {
+            likely.factors[i] = (int) massey.factorNearZero(i + 1);
             likely.first[i] = (int) terms[i].small();
         }
         return likely;
