@@ -432,6 +432,9 @@ public final class PromisesTest {
         tell(b, 6, 1, 10, 1);
         refuses(b, "1000000", STATE, () -> b.derive(7, 6, 2, 6));
         due("100000", b.derive(7, 6, 2, 5), 1);
+        b.two(10, 10, 0, 1, 10);
+        refuses(b, "1000000 with the bound 2", STATE, () -> b.derive(7, 10, 2, 6));
+        due("100000 with the bound 2", b.derive(7, 10, 2, 5), 1);
         tell(b, 8, 1, -10, 1);
         refuses(b, "-1000000", STATE, () -> b.combine(5, 7, 8, 2));
         Backwardterms c = constants(78, 47, 91, 61, 37, 1);
