@@ -49,8 +49,21 @@ public final class AnswersTest {
             Checks.due("books(0)", b.books(0), had);
             int rest = 16 - had;
             if (rest > 0) Checks.due("lay(" + rest + ")", b.lay(rest, 77, 77, 77, 77, 77), 16);
-            Checks.due("promise 3: returns how many numbers it had", b.sweep(), 16);
-            Checks.due("none then", b.sweep(), 0);
+        }
+        Checks.sentence("promise 3: sweeps the DESK: it is empty; returns how many numbers it had: 0 to 16");
+        for (int count = 0; count <= 16; count++) {
+            int[] numbers = new int[count];
+            if (count > 0) numbers[count - 1] = 7;
+            Backwardterms b = Checks.busy(numbers);
+            Checks.due("found(0)", b.found(0), count);
+            Checks.due("sweep()", b.sweep(), count);
+            Checks.due("asked of it", b.found(0) + " " + b.foundBy(5, 0) + " " + b.degree() + " " + b.value(9) + " " + b.books(0), "0 0 -1 0 0");
+            for (int place = 0; place <= 16; place++) {
+                int at = place;
+                Checks.throwsJust("desk(" + at + ")", Checks.INDEX, () -> b.desk(at));
+                Checks.throwsJust("difference(0, " + at + ")", Checks.INDEX, () -> b.difference(0, at));
+            }
+            Checks.due("sweep() again", b.sweep(), 0);
         }
     }
 
@@ -108,6 +121,10 @@ public final class AnswersTest {
         Checks.due("2, 1/2, 1: one", b.term(3, -1) + " " + b.term(3, -2) + " " + b.term(3, -3) + ", " + b.ofSequence(3, 3), "2 1/2 1, 1");
         b.two(3, 0, -3, 2, 9);
         Checks.due("-3, -2/3", b.term(3, -1) + " " + b.term(3, -2) + ", " + b.ofSequence(3, 3), "-3 -2/3, 1");
+        b.two(3, 1, 2, 4, 8);
+        Checks.due("2, 1, 1/2", b.term(3, -1) + " " + b.term(3, -2) + " " + b.term(3, -3) + ", " + b.ofSequence(3, 3), "2 1 1/2, 2");
+        b.two(3, 1, -3, 4, 1);
+        Checks.due("1, -1, -2/3", b.term(3, -1) + " " + b.term(3, -2) + " " + b.term(3, -3) + ", " + b.ofSequence(3, 3), "1 -1 -2/3, 2");
         b.two(3, 1, -1, 5, 7);
         Checks.due("by -1", b.ofSequence(3, 3), 30);
         b.two(3, 9, 7, 0, 0);
@@ -312,7 +329,13 @@ public final class AnswersTest {
         Checks.due("digest()", b.digest(), digestOf(b));
         Checks.put(b, 5, 5, 5, 5, 5, 5, 5, 5, 5, 5, 5, 5, 5, 5, 5, 6);
         Checks.due("digest() with sixteen", b.digest(), digestOf(b));
-        for (int[] winding : new int[][] {{1, 0, 99, 0, 0, 0, 1, 1}, {-8, 1, 1, 1, 1, 1, 1, 1}, {-9, 1, 1, 1, 1, 1, 1, 1}, {-10, 1, 1, 1, 1, 1, 1, 1}}) {
+        // a sign more or less at 19, 20 and 21
+        for (int[] line : new int[][] {{4, 9}, {-5, 0}}) {
+            Checks.put(b, line);
+            Checks.due("digest() with a line", b.digest(), digestOf(b));
+        }
+        int[][] windings = {{1, 0, 99, 0, 0, 0, 1, 1}, {-8, 1, 1, 1, 1, 1, 1, 1}, {-9, 1, 1, 1, 1, 1, 1, 1}, {-10, 1, 1, 1, 1, 1, 1, 1}};
+        for (int[] winding : windings) {
             Checks.put(b, winding);
             b.wind();
             Checks.due("digest() with " + b.books(3) + " terms", b.digest(), digestOf(b));

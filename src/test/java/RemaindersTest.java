@@ -200,6 +200,10 @@ public final class RemaindersTest {
             Checks.due("with nothing, KIND " + kind, b.fails(kind, 3, 3, 3), -1);
             Checks.due("with zeros, KIND " + kind, b.fails(kind, 6, 6, 6), -1);
         }
+        // 1 at each eighth place, at the last that is ENOUGH, too: 71
+        b.derive(20, 8, 3, 1);
+        Checks.due("ENOUGH for the greatest ORDERS", b.enough(2, 20, 20, 20) + " " + b.termMod(20, 71, 2), "72 1");
+        Checks.due("KIND 2 of the greatest ORDERS", b.fails(2, 20, 20, 20), -1);
         b.combine(20, 0, 1, 0);
         b.combine(21, 0, 1, 2);
         b.combine(22, 0, 1, 3);

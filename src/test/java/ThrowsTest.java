@@ -122,6 +122,11 @@ public final class ThrowsTest {
             maker = () -> Checks.withDesk(numbers);
             limit("promise 29", "desk", 0, 0, count - 1, Checks.INDEX, 0);
             limit("promise 33", "difference", 0, 0, count - 1, Checks.INDEX, 0, 0);
+            for (int place = count; place <= 17; place++) {
+                refused("desk", 0, place, Checks.INDEX, new Object[] {0});
+                refused("difference", 0, place, Checks.INDEX, new Object[] {0, 0});
+                refused("difference", 1, place, Checks.INDEX, new Object[] {0, 0});
+            }
             for (int row = 0; row < count; row++) {
                 limit("promise 33", "difference", 1, 0, count - 1 - row, Checks.INDEX, row, 0);
             }
