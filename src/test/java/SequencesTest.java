@@ -252,7 +252,7 @@ public final class SequencesTest {
 
     /**
      * The powers of 999999 as "a", of -1 "b", 10 "c", 100000 "d", 1 "e", 999 "f", 1001 "g", 1000 "h", -1000 "i",
-     * -100000 "j"; "k" is 1 1 2 4 8.
+     * -100000 "j", 64 "l", 256 "m"; "k" is 1 1 2 4 8.
      */
     private static Backwardterms powers() {
         Backwardterms b = new Backwardterms();
@@ -275,6 +275,9 @@ public final class SequencesTest {
         b.combine(8, 7, 1, 2);
         b.combine(9, 3, 1, 2);
         b.two(10, 2, 0, 1, 1);
+        power(b, 11, 64);
+        power(b, 12, 4);
+        b.combine(12, 12, 11, 2);
         b.sweep();
         return b;
     }
@@ -307,6 +310,9 @@ public final class SequencesTest {
         Checks.nothing("sums of the powers of 999999", on, Checks.STATE, x -> x.derive(20, 0, 0, 0));
         Checks.nothing("999999 divided by 1 1 2 4", on, Checks.STATE, x -> x.combine(20, 0, 10, 4));
         Checks.nothing("c(2) of 1000 with -1000", on, Checks.STATE, x -> x.combine(20, 7, 8, 3));
+        // by the prime 2^31 - 1, which tells much of the SHORTEST recurrence, 2^36 is 32, and 256^4 is 2
+        Checks.nothing("each sixth power of 64", on, Checks.STATE, x -> x.derive(20, 11, 2, 6));
+        Checks.nothing("each fourth power of 256", on, Checks.STATE, x -> x.derive(20, 12, 2, 4));
         Checks.sentence("LONG is a RECURRENCE with a FACTOR of more than 6 digits (without \"-\"): -1000000 is");
         Checks.nothing("10 * -100000", on, Checks.STATE, x -> x.combine(20, 2, 9, 2));
         Checks.nothing("c(2) of 1000 with 1000", on, Checks.STATE, x -> x.combine(20, 7, 7, 3));
