@@ -22,6 +22,8 @@ public final class Backwardterms {
     private static final int LAST_SQUARED = 12;
     private static final int LAST_SQUARED_BACK = 6;
     private static final int LAST_TOLD = 20;
+    /** How many numbers the digest has of a SEQUENCE alone. */
+    private static final int DIGESTED_ALONE = 15;
 
     /** Limbs for the largest TERM that is told, a(100) of the ORDER 8: less than 73 of nine digits. */
     private static final int ROOM = 80;
@@ -879,9 +881,14 @@ public final class Backwardterms {
         d = d * 31 + signs(out);
         int smallest = NONE;
         for (int name = 0; name < NAMES; name++) {
-            if (sequences[name] == null) continue;
+            Recurrence a = sequences[name];
+            if (a == null) continue;
             if (smallest == NONE) smallest = name;
-            d = digestSequence(d, out, name, smallest);
+            if (!a.isDigested) digestAlone(a, name, out);
+            d = d * 31 + name;
+            for (int i = 0; i < DIGESTED_ALONE; i++) d *= 31;
+            d += a.digested;
+            d = d * 31 + fails(0, name, smallest, smallest);
         }
         putWound(out, 9, false);
         d = d * 31 + signs(out);
@@ -890,9 +897,9 @@ public final class Backwardterms {
         return d * 31 + (isSound() ? 1 : 0);
     }
 
-    private long digestSequence(long before, StringBuilder out, int name, int smallest) {
-        Recurrence a = sequences[name];
-        long d = before * 31 + name;
+    /** What the digest has of a SEQUENCE alone; a recurrence never changes, so it is told once, and many digests make little. */
+    private void digestAlone(Recurrence a, int name, StringBuilder out) {
+        long d = 0;
         for (int what = 0; what <= 4; what++) d = d * 31 + ofSequence(name, what);
         putText(out, a);
         d = d * 31 + signs(out);
@@ -908,8 +915,8 @@ public final class Backwardterms {
         d = d * 31 + termMod(name, -7, 97);
         d = d * 31 + period(name, 6, false);
         d = d * 31 + period(name, 6, true);
-        d = d * 31 + divided(name, 7);
-        return d * 31 + fails(0, name, smallest, smallest);
+        a.digested = d * 31 + divided(name, 7);
+        a.isDigested = true;
     }
 
     /** How many signs were put; takes them away, so that one builder serves the whole digest. */
@@ -1212,6 +1219,8 @@ public final class Backwardterms {
         Recurrence least;
         boolean isLeastLong;
         boolean isSeenSound;
+        boolean isDigested;
+        long digested;
 
         Recurrence(int order) {
             this.order = order < 0 ? 0 : order;

@@ -22,6 +22,7 @@ public final class AnswersTest {
         digestOfNothing();
         digestWraps();
         digestByName();
+        digestAgain();
         Checks.end("AnswersTest");
     }
 
@@ -360,6 +361,27 @@ public final class AnswersTest {
         long before = b.digest();
         b.knock();
         Checks.due("a KNOCK is told", b.digest() == before, false);
+    }
+
+    /** The same SEQUENCES are digested again under other NAMES, in other places, and after undoing. */
+    private static void digestAgain() {
+        Checks.sentence("promise 41: what is told of a SEQUENCE does not rest on when it was asked");
+        Backwardterms b = Checks.busy();
+        Checks.due("digest()", b.digest(), digestOf(b));
+        for (int name = 0; name < 9; name++) {
+            b.shorten(name);
+            Checks.due("digest() after shorten(" + name + ")", b.digest(), digestOf(b));
+        }
+        for (int name = 0; name < 9; name++) {
+            b.derive(name + 9, name, 4, name % 2 == 0 ? 1 : -1);
+            Checks.due("digest() after " + name + " was made again", b.digest(), digestOf(b));
+            b.drop(name);
+            Checks.due("digest() after drop(" + name + ")", b.digest(), digestOf(b));
+        }
+        for (int i = 10; i > 0; i--) {
+            b.undo();
+            Checks.due("digest() after an undoing", b.digest(), digestOf(b));
+        }
     }
 
     private static BigInteger after(BigInteger d, long v) {

@@ -25,6 +25,7 @@ public final class RoomTest {
         check("digest", (b, i) -> b.digest());
         check("made and digested", (b, i) -> i % 2 == 0 ? b.combine(8 + i / 2 % 18, 4, 5, i / 2 % 2) : b.digest());
         check("made and sound", (b, i) -> i % 2 == 0 ? b.combine(8 + i / 2 % 18, 4, 5, i / 2 % 2) : b.isSound());
+        check("all names digested", (b, i) -> i < 19 ? b.combine(7 + i, 4, 5, i % 2) : b.digest());
         check("two", (b, i) -> b.two(7, 99, 99, 99, i % 99));
         check("two and undo", (b, i) -> i % 2 == 0 ? b.two(7, 3, -2, 4, 4) : b.undo());
         check("refused", (b, i) -> refused(b));
